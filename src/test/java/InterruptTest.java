@@ -1,0 +1,100 @@
+/** Promise 7 (interrupt), and what a step does with a pending interruption (promise 8). */
+public final class InterruptTest {
+    private static final int NULLIFY = Words.word(8, 0, 0, 0, Words.ALWAYS, 0, 0);
+
+    public static void main(String[] args) {
+        Check check = new Check();
+        justOneIsPending(check);
+        itWaitsUntilItIsLetIn(check);
+        itIsTakenBeforeANullification(check);
+        itIsTakenWithABranchUnderWay(check);
+        anInstructionLetsItIn(check);
+        aReturnLetsItIn(check);
+        check.finish();
+    }
+
+    private static void justOneIsPending(Check check) {
+        QueuedFronts x = new QueuedFronts();
+        x.go(0, 10, true);
+        check.due("interrupt()", x.interrupt(), true);
+        check.due("state(6)", x.state(6), 1);
+        String before = Words.all(x);
+        check.due("interrupt() again", x.interrupt(), false);
+        check.due("all after the refusal", Words.all(x), before);
+        check.due("run(1)", x.run(1), 1);
+        check.due("state(6)", x.state(6), 0);
+        check.due("interrupt() anew", x.interrupt(), true);
+    }
+
+    private static void itWaitsUntilItIsLetIn(Check check) {
+        QueuedFronts x = new QueuedFronts();
+        x.go(3, 8, false);
+        x.interrupt();
+        check.due("run(2) shut", x.run(2), 0);
+        check.dueStates("shut", x, 0, 3, 10, 3, 11, 0, 0, 1);
+        x.go(3, 8, true);
+        check.due("still pending", x.state(6), 1);
+        check.due("run(2) open", x.run(2), 1);
+        check.dueStates("taken, then one instruction", x, 0, 0, 5, 0, 6, 0, 0, 0, 3, 8, 3, 9, 0, 1, 1);
+        check.due("count(1)", x.count(1), 1);
+        check.due("count(0)", x.count(0), 4);
+    }
+
+    private static void itIsTakenBeforeANullification(Check check) {
+        QueuedFronts x = new QueuedFronts();
+        x.code(1, 31, NULLIFY);
+        x.code(0, 4, Words.kindOnly(21));
+        x.code(1, 0, Words.addNumber(1, 0, 5));
+        x.go(1, 31, true);
+        x.run(1);
+        x.interrupt();
+        check.due("run(1)", x.run(1), 1);
+        check.dueStates("taken", x, 0, 0, 4, 0, 5, 0, 0, 0, 1, 0, 1, 1, 1, 1, 1);
+        check.due("none nullified yet", x.count(6), 0);
+        check.due("run(1) returns", x.run(1), 0);
+        check.dueStates("returned", x, 0, 1, 0, 1, 1, 1, 1, 0, 1, 0, 1, 1, 1, 1, 1);
+        check.due("run(1) nullifies", x.run(1), 0);
+        check.due("count(6)", x.count(6), 1);
+        check.due("register(1)", x.register(1), 0);
+        check.dueStates("gone on", x, 0, 1, 1, 1, 2, 0, 1);
+    }
+
+    private static void itIsTakenWithABranchUnderWay(Check check) {
+        QueuedFronts x = new QueuedFronts();
+        x.setSpace(1, 3);
+        x.code(2, 0, Words.word(17, 0, 0, 1, 0, 0, 20));
+        x.code(0, 4, Words.kindOnly(21));
+        x.go(2, 0, true);
+        x.run(1);
+        x.interrupt();
+        x.run(1);
+        check.dueStates("the branch is saved", x, 7, 2, 1, 3, 20, 0, 1, 1);
+        x.run(1);
+        check.dueStates("and comes back", x, 0, 2, 1, 3, 20, 0, 1);
+        x.run(1);
+        check.dueStates("and takes effect", x, 0, 3, 20, 3, 21, 0, 1);
+    }
+
+    private static void anInstructionLetsItIn(Check check) {
+        QueuedFronts x = new QueuedFronts();
+        x.code(0, 0, Words.word(20, 1, 0, 0, 0, 1, 0));
+        x.interrupt();
+        check.due("run(1)", x.run(1), 0);
+        check.dueStates("let in, not yet taken", x, 4, 0, 1, 1);
+        check.due("run(1)", x.run(1), 1);
+        check.dueStates("taken", x, 0, 0, 4, 0, 5, 0, 0, 0, 0, 1, 0, 2, 0, 1, 1);
+    }
+
+    private static void aReturnLetsItIn(Check check) {
+        QueuedFronts x = new QueuedFronts();
+        x.code(0, 4, Words.kindOnly(21));
+        x.go(1, 7, true);
+        x.interrupt();
+        x.run(1);
+        x.interrupt();
+        check.due("run(1) returns though one is pending", x.run(1), 0);
+        check.dueStates("returned", x, 0, 1, 7, 1, 8, 0, 1, 1);
+        check.due("run(1) takes the next", x.run(1), 1);
+        check.due("count(1)", x.count(1), 2);
+    }
+}
