@@ -444,6 +444,7 @@ public final class QueuedFronts {
 
         private void moveData(int word) {
             int offset = valueA(word) + Part.m(word);
+            // A wrong offset has trapped before, but no index is used unseen.
             if (isDataOffset(offset)) {
                 int index = dataIndex(valueS(word), offset);
                 if (Part.kind(word) == Kind.LOAD) {

@@ -32,13 +32,7 @@ public final class CodeTest {
     }
 
     private static void noSuchPlace(Check check) {
-        QueuedFronts x = new QueuedFronts();
-        for (int space = 0; space <= 3; space++) {
-            for (int offset = 0; offset <= 31; offset++) {
-                x.code(space, offset, 9);
-            }
-        }
-        String before = Words.all(x);
+        QueuedFronts x = full();
         int[][] wrong = {{-1, 0}, {4, 0}, {0, -1}, {0, 32}, {3, 32}, {-1, 32}, {1, -1},
             {Integer.MIN_VALUE, 0}, {Integer.MAX_VALUE, 5}, {0, Integer.MIN_VALUE}, {0, Integer.MAX_VALUE}};
         for (int[] place : wrong) {
@@ -46,6 +40,16 @@ public final class CodeTest {
             check.due("code" + at, x.code(place[0], place[1], 8), false);
             check.due("word" + at, x.word(place[0], place[1]), 0);
         }
-        check.due("all after refusals", Words.all(x), before);
+        check.due("all after refusals", Words.all(x), Words.all(full()));
+    }
+
+    private static QueuedFronts full() {
+        QueuedFronts x = new QueuedFronts();
+        for (int space = 0; space <= 3; space++) {
+            for (int offset = 0; offset <= 31; offset++) {
+                x.code(space, offset, 9);
+            }
+        }
+        return x;
     }
 }

@@ -25,13 +25,7 @@ public final class DataTest {
     }
 
     private static void noSuchWord(Check check) {
-        QueuedFronts x = new QueuedFronts();
-        for (int space = 0; space <= 3; space++) {
-            for (int offset = 0; offset <= 15; offset++) {
-                x.data(space, offset, 9);
-            }
-        }
-        String before = Words.all(x);
+        QueuedFronts x = full();
         int[][] wrong = {{-1, 0}, {4, 0}, {0, -1}, {0, 16}, {3, 16}, {1, 31}, {1, -1},
             {Integer.MIN_VALUE, 0}, {Integer.MAX_VALUE, 5}, {0, Integer.MIN_VALUE}, {0, Integer.MAX_VALUE}};
         for (int[] place : wrong) {
@@ -39,6 +33,16 @@ public final class DataTest {
             check.due("data" + at, x.data(place[0], place[1], 8), false);
             check.due("peek" + at, x.peek(place[0], place[1]), 0);
         }
-        check.due("all after refusals", Words.all(x), before);
+        check.due("all after refusals", Words.all(x), Words.all(full()));
+    }
+
+    private static QueuedFronts full() {
+        QueuedFronts x = new QueuedFronts();
+        for (int space = 0; space <= 3; space++) {
+            for (int offset = 0; offset <= 15; offset++) {
+                x.data(space, offset, 9);
+            }
+        }
+        return x;
     }
 }

@@ -5,6 +5,7 @@ public final class MarkBackTest {
     public static void main(String[] args) {
         Check check = new Check();
         nothingIsRemembered(check);
+        markChangesNothing(check);
         allIsBroughtBackAgainAndAgain(check);
         codeAndCountsStay(check);
         aLaterMarkReplacesAnEarlier(check);
@@ -51,29 +52,34 @@ public final class MarkBackTest {
         x.run(2);
     }
 
+    // What is due is read off a second object that had the same calls, so that no object
+    // gets more calls than the document promises anything for.
+
     private static void nothingIsRemembered(Check check) {
         QueuedFronts x = inTheMiddle();
-        String before = Words.all(x);
         check.due("back()", x.back(), false);
         check.due("back() again", x.back(), false);
-        check.due("all after refusals", Words.all(x), before);
+        check.due("all after refusals", Words.all(x), Words.all(inTheMiddle()));
+    }
+
+    private static void markChangesNothing(Check check) {
+        QueuedFronts x = inTheMiddle();
+        check.dueStates("in the middle", x, 0, 1, 31, 2, 17, 1, 1, 1, 3, 13, 2, 17, 1, 1, 1);
+        x.mark();
+        check.due("mark() changes nothing", Words.all(x), Words.all(inTheMiddle()));
     }
 
     private static void allIsBroughtBackAgainAndAgain(Check check) {
+        String then = Words.remembered(inTheMiddle());
         QueuedFronts x = inTheMiddle();
-        check.dueStates("in the middle", x, 0, 1, 31, 2, 17, 1, 1, 1, 3, 13, 2, 17, 1, 1, 1);
-        String all = Words.all(x);
-        String then = Words.remembered(x);
         x.mark();
-        check.due("mark() changes nothing", Words.all(x), all);
         for (int by = 1; by <= 2; by++) {
             changeAll(x, by);
-            check.due("changed", Words.remembered(x).equals(then), false);
             check.due("back()", x.back(), true);
             check.due("as it was then", Words.remembered(x), then);
         }
         check.due("back() at once", x.back(), true);
-        check.due("as it was then", Words.remembered(x), then);
+        check.dueStates("as it was then", x, 0, 1, 31, 2, 17, 1, 1, 1, 3, 13, 2, 17, 1, 1, 1);
     }
 
     private static void codeAndCountsStay(Check check) {
@@ -93,15 +99,17 @@ public final class MarkBackTest {
     }
 
     private static void aLaterMarkReplacesAnEarlier(Check check) {
+        QueuedFronts twin = inTheMiddle();
+        changeAll(twin, 1);
+        String later = Words.remembered(twin);
         QueuedFronts x = inTheMiddle();
         x.mark();
         changeAll(x, 1);
-        String later = Words.remembered(x);
         x.mark();
         changeAll(x, 2);
         check.due("back()", x.back(), true);
         check.due("the later one", Words.remembered(x), later);
-        changeAll(x, 3);
+        x.run(5);
         check.due("back()", x.back(), true);
         check.due("the later one still", Words.remembered(x), later);
     }
