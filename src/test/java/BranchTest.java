@@ -6,6 +6,7 @@ public final class BranchTest {
         BranchTest test = new BranchTest();
         test.link();
         test.linkInTheShadowOfABranch();
+        test.targetsInTheShadowOfABranch();
         test.compare();
         test.addAndBranch();
         test.addInPlace();
@@ -64,6 +65,31 @@ public final class BranchTest {
         check.dueStates("and is come to", x, 0, 1, 11, 1, 12);
     }
 
+    /** The front is place 6 of space 1, the back the last one of space 3, when the word is done. */
+    private void inShadow(int word, int backSpace, int backOffset) {
+        QueuedFronts x = new QueuedFronts();
+        x.setSpace(1, 3);
+        x.set(1, 40);
+        x.code(1, 5, Words.word(17, 0, 0, 1, 0, 0, 31));
+        x.code(1, 6, word);
+        x.go(1, 5, false);
+        x.run(2);
+        check.dueStates("in the shadow, kind " + (word >>> 27), x, 0, 3, 31, backSpace, backOffset, 0);
+    }
+
+    private void targetsInTheShadowOfABranch() {
+        inShadow(Words.word(13, 0, 0, 0, 0, 0, 3), 1, 11);
+        inShadow(Words.word(14, 0, 0, 0, Words.ALWAYS, 0, 3), 1, 11);
+        inShadow(Words.word(15, 0, 0, 0, Words.ALWAYS, 0, -9), 1, 31);
+        inShadow(Words.word(16, 0, 1, 0, 0, 0, 3), 1, 11);
+        inShadow(Words.word(17, 0, 1, 0, 0, 0, 3), 0, 11);
+        inShadow(Words.word(17, 0, 1, 1, 0, 0, -9), 3, 31);
+        // those that do not branch go on behind the back, in its space
+        inShadow(Words.word(14, 0, 0, 0, Words.NEVER, 0, 3), 3, 0);
+        inShadow(Words.word(15, 0, 0, 0, Words.NEVER, 0, 3), 3, 0);
+        inShadow(Words.NOTHING, 3, 0);
+    }
+
     private void compare() {
         // each row: A, B, condition, whether it branches
         int[][] rows = {{5, 5, 1, 1}, {5, 6, 1, 0}, {-1, 1, 2, 1}, {1, -1, 2, 0}, {-1, 1, 4, 0}, {1, -1, 4, 1},
@@ -111,6 +137,9 @@ public final class BranchTest {
         dueQueue("kind 15, t 0: -7 is not 0", still, 4, 1, 6, 0);
         QueuedFronts doubled = done(Words.word(15, 1, 1, 2, 2, 0, 9), 4, 7, 0, 0);
         check.due("kind 15, t and a the same", doubled.register(1), 14);
+        QueuedFronts wrapped = done(Words.word(15, 1, 1, 2, 2, 0, 9), 4, 1 << 30, 0, 0);
+        dueQueue("kind 15, t and a the same: the sum wraps below 0", wrapped, 4, 1, 15, 0);
+        check.due("register(1)", wrapped.register(1), Integer.MIN_VALUE);
     }
 
     private void jump() {

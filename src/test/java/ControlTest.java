@@ -8,6 +8,7 @@ public final class ControlTest {
         test.lets();
         test.returns();
         test.readsSaved();
+        test.readsSavedBeforeAnyTrap();
         test.writesSaved();
         test.writtenThingsAreReturnedTo();
         test.trapsByKind();
@@ -105,6 +106,15 @@ public final class ControlTest {
         flagsAreTold(1, 1, 3);
     }
 
+    private void readsSavedBeforeAnyTrap() {
+        for (int m = 0; m <= 6; m++) {
+            QueuedFronts x = new QueuedFronts();
+            x.set(5, 999);
+            doAt(x, Words.word(22, 5, 0, 0, 0, 0, m));
+            check.due("kind 22 before any trap, m " + m, x.register(5), 0);
+        }
+    }
+
     private void flagsAreTold(int nullify, int lets, int want) {
         QueuedFronts x = withSaved();
         x.set(1, want);
@@ -144,10 +154,32 @@ public final class ControlTest {
         writes(4, 4, 2, 30, 3, 17, 0, 0, 1);
         writes(4, -1, 2, 30, 3, 17, 1, 1, 1);
         writes(4, -2, 2, 30, 3, 17, 0, 1, 1);
+        manyBits(0, 5);
+        manyBits(1, 5);
+        manyBits(2, 2);
+        manyBits(3, 2);
         for (int m : new int[] {5, 6, 7, -1, -4, 16, 32, 8191, -8192}) {
             writes(m, 0, 2, 30, 3, 17, 1, 1, 1);
             writes(m, 2, 2, 30, 3, 17, 1, 1, 1);
         }
+    }
+
+    /** Each bit by itself: the lowest ones count, all above are lost, and the other saved things stay. */
+    private void manyBits(int m, int bits) {
+        for (int bit = 0; bit <= 31; bit++) {
+            int[] things = {2, 30, 3, 17, 1, 1, 1};
+            things[new int[] {1, 3, 0, 2}[m]] = bit < bits ? 1 << bit : 0;
+            writes(m, 1 << bit, things);
+        }
+        QueuedFronts x = new QueuedFronts();
+        x.code(1, 14, Words.kindOnly(24));
+        x.go(1, 14, false);
+        x.run(1);
+        int[] things = {1, 14, 1, 15, 0, 0, 4};
+        things[new int[] {1, 3, 0, 2}[m]] = 3;
+        x.set(1, 3);
+        doAt(x, Words.word(23, 0, 1, 0, 0, 0, m));
+        check.dueStates("kind 23, m " + m + ", after a trap in space 1", x, 7, things);
     }
 
     private void writtenThingsAreReturnedTo() {

@@ -70,6 +70,9 @@ public final class DataKindsTest {
         QueuedFronts zero = ready(Words.word(12, 0, 1, 0, 0, 0, 0), 4);
         zero.run(1);
         check.due("register 0 stored", zero.peek(3, 4), 0);
+        QueuedFronts own = ready(Words.word(12, 1, 1, 2, 0, 0, -2), 17);
+        own.run(1);
+        check.due("t and a the same", own.peek(0, 15), 17);
     }
 
     private static void traps(Check check) {

@@ -6,6 +6,11 @@ public final class InterruptTest {
         Check check = new Check();
         justOneIsPending(check);
         itWaitsUntilItIsLetIn(check);
+        justOneIsPendingWhileShut(check);
+        noStepsTakeNone(check);
+        itWaitsThroughANullification(check);
+        itWaitsThroughATrap(check);
+        oneComesInTheMiddleOfAnother(check);
         itIsTakenBeforeANullification(check);
         itIsTakenWithABranchUnderWay(check);
         anInstructionLetsItIn(check);
@@ -38,6 +43,58 @@ public final class InterruptTest {
         check.dueStates("taken, then one instruction", x, 0, 0, 5, 0, 6, 0, 0, 0, 3, 8, 3, 9, 0, 1, 1);
         check.due("count(1)", x.count(1), 1);
         check.due("count(0)", x.count(0), 4);
+    }
+
+    private static void justOneIsPendingWhileShut(Check check) {
+        QueuedFronts x = new QueuedFronts();
+        check.due("interrupt() while shut", x.interrupt(), true);
+        check.due("interrupt() again while shut", x.interrupt(), false);
+        x.go(2, 9, true);
+        check.due("run(9) takes just one", x.run(9), 1);
+        check.due("count(1)", x.count(1), 1);
+    }
+
+    private static void noStepsTakeNone(Check check) {
+        QueuedFronts x = new QueuedFronts();
+        x.go(2, 9, true);
+        x.interrupt();
+        check.due("run(0)", x.run(0), 0);
+        check.dueStates("still pending", x, 0, 2, 9, 2, 10, 0, 1, 1, 0, 0, 0, 0, 0, 0, 0);
+        check.due("count(0)", x.count(0), 0);
+        check.due("count(1)", x.count(1), 0);
+    }
+
+    private static void itWaitsThroughANullification(Check check) {
+        QueuedFronts x = new QueuedFronts();
+        x.code(1, 31, NULLIFY);
+        x.code(1, 0, Words.addNumber(1, 0, 5));
+        x.go(1, 31, false);
+        x.run(1);
+        x.interrupt();
+        check.due("run(1) nullifies", x.run(1), 0);
+        check.dueStates("nullified, and still pending", x, 0, 1, 1, 1, 2, 0, 0, 1, 0, 0, 0, 0, 0, 0, 0);
+        check.due("count(6)", x.count(6), 1);
+        check.due("register(1)", x.register(1), 0);
+    }
+
+    private static void itWaitsThroughATrap(Check check) {
+        QueuedFronts x = new QueuedFronts();
+        x.code(3, 7, Words.kindOnly(24));
+        x.go(3, 7, false);
+        x.interrupt();
+        check.due("run(3) traps once, by the instruction", x.run(3), 1);
+        check.dueStates("still pending", x, 0, 0, 18, 0, 19, 0, 0, 1, 3, 7, 3, 8, 0, 0, 4);
+        check.due("count(1)", x.count(1), 0);
+    }
+
+    private static void oneComesInTheMiddleOfAnother(Check check) {
+        QueuedFronts x = new QueuedFronts();
+        x.go(3, 7, true);
+        x.interrupt();
+        x.run(1);
+        check.due("interrupt() once the first is taken", x.interrupt(), true);
+        check.due("run(5): taking the first has shut out the second", x.run(5), 0);
+        check.dueStates("what the first saved stays", x, 0, 0, 9, 0, 10, 0, 0, 1, 3, 7, 3, 8, 0, 1, 1);
     }
 
     private static void itIsTakenBeforeANullification(Check check) {

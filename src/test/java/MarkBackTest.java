@@ -9,6 +9,7 @@ public final class MarkBackTest {
         allIsBroughtBackAgainAndAgain(check);
         codeAndCountsStay(check);
         aLaterMarkReplacesAnEarlier(check);
+        theCodeOfNowIsDoneAfterBack(check);
         backToTheFirst(check);
         check.finish();
     }
@@ -96,6 +97,19 @@ public final class MarkBackTest {
         check.due("code and counts", Words.lasting(x), lasting);
         check.due("word(0, 5)", x.word(0, 5), 66);
         check.due("count(6)", x.count(6), 1);
+    }
+
+    private static void theCodeOfNowIsDoneAfterBack(Check check) {
+        QueuedFronts x = new QueuedFronts();
+        x.code(0, 0, Words.addNumber(1, 0, 5));
+        x.mark();
+        x.run(1);
+        x.code(0, 0, Words.addNumber(1, 0, 6));
+        check.due("back()", x.back(), true);
+        check.due("register(1)", x.register(1), 0);
+        x.run(1);
+        check.due("register(1) by the later word", x.register(1), 6);
+        check.due("count(0)", x.count(0), 2);
     }
 
     private static void aLaterMarkReplacesAnEarlier(Check check) {

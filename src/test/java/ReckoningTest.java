@@ -13,6 +13,7 @@ public final class ReckoningTest {
         test.overflowTraps();
         test.shifts();
         test.nullifyByResult();
+        test.nullifyByRightShift();
         test.nullifyByOperands();
         test.operandsOfBefore();
         test.check.finish();
@@ -143,9 +144,26 @@ public final class ReckoningTest {
         nullifies(9, 12, 12, ZERO, -12, true);
         nullifies(9, 12, 12, ZERO, 0, false);
         nullifies(9, 12, 0, BELOW, -13, true);
+        // the sum wraps, and the condition is asked of what t becomes
+        nullifies(9, MOST, 0, BELOW, 1, true);
+        nullifies(9, LEAST, 0, BELOW, -1, false);
+        nullifies(0, LEAST, -1, BELOW, 0, false);
         nullifies(10, 1, 1, BELOW, 31, true);
         nullifies(10, 2, 2, ZERO, 31, true);
         nullifies(10, 1, 1, ZERO, 31, false);
+    }
+
+    private void nullifyByRightShift() {
+        // each row: A, m, condition, whether it nullifies
+        int[][] rows = {{-1, 31, BELOW, 0}, {-1, 0, BELOW, 1}, {-1, 32, BELOW, 1}, {1, 1, ZERO, 1}, {2, 1, ZERO, 0},
+            {2, 1, 6, 1}, {LEAST, -1, 6, 1}, {LEAST, 31, 0, 0}, {LEAST, 31, Words.ALWAYS, 1}};
+        for (int[] row : rows) {
+            for (int t = 0; t <= 3; t++) {
+                QueuedFronts x = done(Words.word(10, t, 1, 2, row[2], 1, row[1]), row[0], 7);
+                check.due("to the right by " + row[1] + ", A " + row[0] + ", c " + row[2] + ", t " + t,
+                    x.state(4), row[3]);
+            }
+        }
     }
 
     private void nullifyByOperands() {

@@ -8,7 +8,10 @@ public final class RunTest {
         nullifiedBranchesAndTrapsDoNothing(check);
         everyTrapSavesAndGoes(check);
         aTrapReplacesWhatWasSaved(check);
+        aTrapReplacesASavedNullification(check);
         aTrapInTheShadowOfABranch(check);
+        theMostSteps(check);
+        interruptionsAndTrapsInOneAnswer(check);
         trapsAreCountedInTheAnswer(check);
         check.finish();
     }
@@ -103,6 +106,43 @@ public final class RunTest {
         check.due("run(2)", x.run(2), 1);
         check.dueStates("the second", x, 7, 0, 17, 0, 18, 0, 0, 5);
         check.dueStates("the second goes", x, 0, 0, 20, 0, 21);
+    }
+
+    private static void aTrapReplacesASavedNullification(Check check) {
+        QueuedFronts x = new QueuedFronts();
+        x.code(2, 31, Words.word(8, 0, 0, 0, Words.ALWAYS, 0, 0));
+        x.code(0, 4, Words.kindOnly(24));
+        x.go(2, 31, true);
+        x.run(1);
+        x.interrupt();
+        check.due("run(1)", x.run(1), 1);
+        check.dueStates("the interruption", x, 7, 2, 0, 2, 1, 1, 1, 1);
+        check.due("run(1)", x.run(1), 1);
+        check.dueStates("the trap behind it", x, 0, 0, 16, 0, 17, 0, 0, 0, 0, 4, 0, 5, 0, 0, 4);
+    }
+
+    private static void theMostSteps(Check check) {
+        QueuedFronts x = new QueuedFronts();
+        check.due("run(199)", x.run(199), 0);
+        check.due("count(0)", x.count(0), 199);
+        check.due("run(200)", x.run(200), 0);
+        check.due("count(0)", x.count(0), 399);
+        check.due("run(201)", x.run(201), QueuedFronts.NONE);
+        check.due("count(0)", x.count(0), 399);
+        check.dueStates("399 steps, modulo 32", x, 0, 0, 15, 0, 16);
+    }
+
+    private static void interruptionsAndTrapsInOneAnswer(Check check) {
+        QueuedFronts x = new QueuedFronts();
+        x.code(0, 4, Words.word(8, 0, 0, 0, Words.ALWAYS, 0, 0));
+        x.code(0, 6, Words.kindOnly(24));
+        x.code(0, 16, Words.kindOnly(25));
+        x.go(1, 0, true);
+        x.interrupt();
+        check.due("an interruption, two instructions, one nullified, two traps", x.run(6), 3);
+        check.dueStates("in six steps", x, 0, 0, 21, 0, 22, 0, 0, 0, 0, 16, 0, 17, 0, 0, 5);
+        check.due("count(0)", x.count(0), 6);
+        check.due("count(6)", x.count(6), 1);
     }
 
     private static void aTrapInTheShadowOfABranch(Check check) {
